@@ -11,6 +11,7 @@ public final class ChanceTest {
         rainAtMost();
         rainBad();
         februaryActs();
+        februaryFull();
         februaryFrom();
         februaryBad();
         keep();
@@ -226,6 +227,26 @@ public final class ChanceTest {
         due(call + ", layers", hay.february(z, n, 1), played.count(4));
         due(call + ", burnt", hay.february(z, n, 2), played.count(5) - burntAhead);
         due(call + ", nothing changes", hay.count(3), hoursAhead);
+    }
+
+    /** The ricks are full ahead of these Februaries: what can not be raked then stays in its swathe. */
+    private static void februaryFull() {
+        for (String text : new String[] {"m123456789;m97531;c3;c0;k0;", "m123456789;m2;m3;c0;c1;k9;k9;e1;"}) {
+            HayTalk hay = Due.laid(text);
+            HayTalk played = Due.laid(text);
+            for (HayTalk each : new HayTalk[] {hay, played}) {
+                for (int i = 0; i < 16; i++) {
+                    each.pass(1);
+                    each.rake(0, 0, i % each.count(2));
+                }
+            }
+            due("28: full", hay.rick(0, 1), 8);
+            for (int z = 0; z < 40; z++) {
+                played.keep();
+                dueFebruary(hay, played, z, 1 + z);
+                played.back();
+            }
+        }
     }
 
     /** By z = 0 the draw ahead of hour 0 is 1: swathe 0 is raked into rick 0. */

@@ -13,6 +13,7 @@ public final class FieldsTest {
         lay();
         layEndsAll();
         layNo();
+        faultBehindLay();
         weather();
         mower();
         cow();
@@ -249,6 +250,8 @@ public final class FieldsTest {
         hay.pass(3);
         hay.see(1, 0);
         hay.see(3, 1);
+        hay.rake(0, 1, 1);
+        hay.pass(1);
         hay.keep();
         hay.keep();
         due("5: a rick burnt", hay.count(5) > 0 ? 1 : 0, 1);
@@ -269,6 +272,26 @@ public final class FieldsTest {
         due("5: nothing undone", hay.undo(), HayTalk.NO);
         due("5: nothing kept", hay.back(), HayTalk.NO);
         due("5: nothing seen", hay.which(), 3);
+    }
+
+    private static void faultBehindLay() {
+        HayTalk hay = Due.laid("m12;m3;c0;k0;e2;");
+        hay.pass(1);
+        for (String text : new String[] {"m9;m8;m7;c3;k9;k9;e3;", "m9;x", "c3;", ""}) {
+            hay.wipe();
+            Due.writeOn(hay, text);
+            hay.fault();
+            due("4: fault lays nothing, mowers", hay.count(0), 2);
+            due("4: fault lays nothing, cows", hay.count(1), 1);
+            due("4: fault lays nothing, ricks", hay.count(2), 1);
+            due("4: fault lays nothing, word", hay.mower(0, 0), 2);
+            due("4: fault lays nothing, kind", hay.cow(0, 0), 0);
+            due("4: fault lays nothing, thatch", hay.rick(0, 0), 0);
+            due("4: fault lays nothing, weather", hay.behind(1, 1, 1), 4);
+        }
+        due("5: lay of no text", hay.lay(), HayTalk.NO);
+        due("5: the land stays", hay.count(0), 2);
+        due("5: its hours stay", hay.count(3), 1);
     }
 
     private static void layNo() {
@@ -300,6 +323,11 @@ public final class FieldsTest {
         due("5: nine hours", Due.laid("m1;c0;k0;e100000003;").behind(9, 0, 1), 4);
         due("5: nine hours over", Due.laid("m1;c0;k0;e100000003;").behind(10, 0, 1), 5);
         HayTalk hay = Due.laid("m1;c0;k0;e3;");
+        Due.relay(hay, "m1;c0;k0;");
+        due("5: no weather of an earlier text", hay.behind(40, 0, 1), 0);
+        for (int i = 0; i < 3; i++) {
+            Due.relay(hay, "m1;c0;k0;e3;");
+        }
         Due.relay(hay, "m1;c0;k0;");
         due("5: no weather of an earlier text", hay.behind(40, 0, 1), 0);
     }

@@ -77,17 +77,17 @@ public final class ForesightTest {
         due("17: burnt once", hay.rick(0, 3), 1);
         hay.rake(0, 0, 2);
         due("17: wet of 40 less 9", hay.burns(2), 2);
-        HayTalk long1 = Due.laid("m1;c0;k9;e2;");
-        long1.pass(5);
-        long1.rake(0, 0, 0);
-        due("17: 1 hotter each hour", long1.burns(0), 40);
-        // heat stays under a layer that burns first
-        long1.pass(19);
-        long1.rake(0, 0, 0);
-        due("17: the hottest to come", long1.burns(0), 2);
+        HayTalk slowOne = Due.laid("m1;c0;k9;e2;");
+        slowOne.pass(5);
+        slowOne.rake(0, 0, 0);
+        due("17: 1 hotter each hour", slowOne.burns(0), 40);
+        // a wetter layer on top burns ahead of the one below
+        slowOne.pass(19);
+        slowOne.rake(0, 0, 0);
+        due("17: the hottest to come", slowOne.burns(0), 2);
     }
 
-    /** Puts one layer for each text of words into rick k, the first lowest; each mower i says i for ever. */
+    /** Each mower says its own number for ever, so that a layer of mowers a to b has just the words a to b. */
     private static HayTalk field(String cows) {
         return Due.laid("m0;m1;m2;m3;m4;" + cows + "k0;k0;k0;");
     }
