@@ -406,7 +406,7 @@ public final class ForesightTest {
         hay.rake(0, 3, 1);
         hay.pass(1);
         hay.see(1, 2);
-        String ahead = standing(hay);
+        String ahead = Standing.of(hay);
         hay.behind(40, 0, 1);
         hay.burns(1);
         hay.tell(0, 6, -1);
@@ -419,24 +419,6 @@ public final class ForesightTest {
         hay.rain(0, 8, 5, 9, 0);
         hay.february(3, 60, 0);
         hay.fault();
-        DUE.due("nothing changes", standing(hay).equals(ahead) ? 1 : 0, 1);
-    }
-
-    private static String standing(HayTalk hay) {
-        StringBuilder all = new StringBuilder();
-        for (int what = 0; what <= 10; what++) {
-            all.append(hay.count(what)).append(' ');
-        }
-        for (int i = 0; i < 4; i++) {
-            all.append(hay.mower(i, 0)).append(' ').append(hay.mower(i, 1)).append(' ').append(hay.mower(i, 2));
-            all.append(' ').append(hay.cow(i, 1)).append(' ');
-            for (int what = 0; what <= 3; what++) {
-                all.append(hay.rick(i, what)).append(' ');
-            }
-            for (int what = 0; what <= 2; what++) {
-                all.append(hay.layer(i, 0, what)).append(' ');
-            }
-        }
-        return all.toString();
+        DUE.due("nothing changes", Standing.of(hay).equals(ahead) ? 1 : 0, 1);
     }
 }

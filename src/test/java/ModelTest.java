@@ -43,8 +43,8 @@ public final class ModelTest {
             for (int i = 0; i < 5; i++) {
                 args[i] = drawnArgument(draw, NAMES[which], i, hourly);
             }
-            int want = answerOf(model, which, args);
-            int got = answerOf(hay, which, args);
+            int want = Calls.answer(model, NAMES[which], args);
+            int got = Calls.answer(hay, NAMES[which], args);
             DUE.due("run " + seed + ", call " + calls + ": " + NAMES[which] + java.util.Arrays.toString(args), got, want);
         }
     }
@@ -133,75 +133,5 @@ public final class ModelTest {
     private static int drawnSet(Random draw) {
         int set = draw.nextInt(5) == 0 ? draw.nextInt(1024) : 1 << draw.nextInt(10);
         return draw.nextBoolean() ? set : set | 1 << draw.nextInt(10);
-    }
-
-    private static int answerOf(HayTalk x, int which, int[] a) {
-        switch (NAMES[which]) {
-            case "write": return x.write(a[0]);
-            case "wipe": return x.wipe();
-            case "fault": return x.fault();
-            case "lay": return x.lay();
-            case "mower": return x.mower(a[0], a[1]);
-            case "cow": return x.cow(a[0], a[1]);
-            case "rick": return x.rick(a[0], a[1]);
-            case "layer": return x.layer(a[0], a[1], a[2]);
-            case "pass": return x.pass(a[0]);
-            case "rake": return x.rake(a[0], a[1], a[2]);
-            case "cut": return x.cut(a[0], a[1]);
-            case "turn": return x.turn(a[0]);
-            case "heap": return x.heap(a[0], a[1]);
-            case "undo": return x.undo();
-            case "behind": return x.behind(a[0], a[1], a[2]);
-            case "burns": return x.burns(a[0]);
-            case "tell": return x.tell(a[0], a[1], a[2]);
-            case "rakes": return x.rakes(a[0]);
-            case "most": return x.most(a[0], a[1]);
-            case "first": return x.first(a[0], a[1]);
-            case "needle": return x.needle(a[0], a[1], a[2]);
-            case "see": return x.see(a[0], a[1]);
-            case "forget": return x.forget();
-            case "which": return x.which();
-            case "kinds": return x.kinds(a[0], a[1]);
-            case "rain": return x.rain(a[0], a[1], a[2], a[3], a[4]);
-            case "february": return x.february(a[0], a[1], a[2]);
-            case "keep": return x.keep();
-            case "back": return x.back();
-            default: return x.count(a[0]);
-        }
-    }
-
-    private static int answerOf(Model x, int which, int[] a) {
-        switch (NAMES[which]) {
-            case "write": return x.write(a[0]);
-            case "wipe": return x.wipe();
-            case "fault": return x.fault();
-            case "lay": return x.lay();
-            case "mower": return x.mower(a[0], a[1]);
-            case "cow": return x.cow(a[0], a[1]);
-            case "rick": return x.rick(a[0], a[1]);
-            case "layer": return x.layer(a[0], a[1], a[2]);
-            case "pass": return x.pass(a[0]);
-            case "rake": return x.rake(a[0], a[1], a[2]);
-            case "cut": return x.cut(a[0], a[1]);
-            case "turn": return x.turn(a[0]);
-            case "heap": return x.heap(a[0], a[1]);
-            case "undo": return x.undo();
-            case "behind": return x.behind(a[0], a[1], a[2]);
-            case "burns": return x.burns(a[0]);
-            case "tell": return x.tell(a[0], a[1], a[2]);
-            case "rakes": return x.rakes(a[0]);
-            case "most": return x.most(a[0], a[1]);
-            case "first": return x.first(a[0], a[1]);
-            case "needle": return x.needle(a[0], a[1], a[2]);
-            case "see": return x.see(a[0], a[1]);
-            case "forget": return x.forget();
-            case "which": return x.which();
-            case "kinds": return x.kinds(a[0], a[1]);
-            case "rain": return x.rain(a[0], a[1], a[2], a[3], a[4]);
-            case "february": return x.february(a[0], a[1], a[2]);
-            case "keep": return x.keep();
-            case "back": return x.back();
-            default: return x.count(a[0]);
-        }
     }
 }
