@@ -21,6 +21,7 @@ public final class EdgesOfTextTest {
         placeOfFault();
         laidOfEach();
         newObject();
+        usedAtMost();
         wipe();
         layEndsThese();
         DUE.end("EdgesOfTextTest");
@@ -268,6 +269,13 @@ public final class EdgesOfTextTest {
         RUNS.onNew("count(10)=0 wipe()=0 fault()=NONE lay()=NO count(0)=4");
         RUNS.sentence("HOUR 0 is next, SWATHES and RICKS are empty, COWS are told nothing");
         RUNS.onNew("count(3)=0 count(4)=0 count(5)=0 count(6)=0 count(7)=0 count(8)=0 count(9)=0 mower(3,1)=0 mower(3,2)=0");
+    }
+
+    private static void usedAtMost() {
+        RUNS.sentence("An object is used for at most 512 calls");
+        RUNS.onNew("511*write(31)=BAD write(59)=1");
+        RUNS.onNew("41*pass(24) pass(14)=998 468*pass(2)=NO pass(1)=999 undo()=7");
+        RUNS.onNew("100*pass(1) 411*february(77,60,2) pass(1)=101");
     }
 
     private static void wipe() {
