@@ -268,12 +268,12 @@ public final class HayTalk {
             return BAD;
         }
         int best = NONE;
-        int fewest = ALL_WORDS;
+        int fewest = NONE;
         for (int a = 0; a < land.mowers; a++) {
             for (int b = a; b < land.mowers; b++) {
                 int words = field.lyingIn(a, b);
                 int others = Integer.bitCount(words & ~set);
-                if ((words & set) == set && others < fewest) {
+                if ((words & set) == set && (best == NONE || others < fewest)) {
                     fewest = others;
                     best = 10 * a + b;
                 }

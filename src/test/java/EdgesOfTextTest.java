@@ -24,6 +24,7 @@ public final class EdgesOfTextTest {
         usedAtMost();
         wipe();
         layEndsThese();
+        nothingOfEarlierTexts();
         DUE.end("EdgesOfTextTest");
     }
 
@@ -282,6 +283,7 @@ public final class EdgesOfTextTest {
         RUNS.sentence("THE TEXT is empty: how long it was");
         RUNS.onNew("wipe()=0 write(109)=1 wipe()=1 wipe()=0 count(10)=0 fault()=NONE");
         RUNS.onNew("write(120)=1 fault()=0 wipe()=1 fault()=NONE write(120)=1 fault()=0");
+        RUNS.onNew("3*write(120) fault()=0 wipe()=3 write(109)=1 write(49)=2 write(59)=3 fault()=NONE");
         RUNS.onLaid("m12;c3;k7;", "wipe()=10 count(0)=1 mower(0,0)=1 cow(0,0)=3 rick(0,0)=7 lay()=NO count(0)=1");
     }
 
@@ -302,5 +304,32 @@ public final class EdgesOfTextTest {
         RUNS.sentence("lay: NO, nothing changes then");
         RUNS.onLaid(text, "pass(3) see(1,0) keep() write(120) lay()=NO count(3)=3 count(7)=1 count(8)=1 count(9)=1 "
             + "count(10)=13 mower(0,2)=6 undo()=0 back()=0 count(3)=3");
+    }
+
+    private static void nothingOfEarlierTexts() {
+        RUNS.sentence("LAID is a TEXT: nothing of one that was LAID or read ahead");
+        String full = "m123456789;m5;m6;m7;m8;e123;c3;c2;c1;c0;k9;k8;k7;";
+        String small = "c0;k0;m46;";
+        String told = "count(0)=1 count(1)=1 count(2)=1 mower(0,0)=4 mower(1,0)=BAD cow(0,0)=0 cow(1,0)=BAD rick(0,0)=0 "
+            + "rick(1,0)=BAD behind(1,0,0)={4} behind(2,0,0)={46} behind(9,0,0)={46} behind(9,0,1)=0 first(4,1)=0 "
+            + "first(5,0)=NONE see(4,8)=1 which()=1 forget()=1 pass(3)=3 mower(0,0)=6 mower(0,2)=0 rake(0,0,0)=1";
+        HayTalk laid = Due.laid(full);
+        for (int again = 0; again < 3; again++) {
+            Due.relay(laid, small);
+            RUNS.on(laid, 0, told);
+        }
+        HayTalk back = Due.laid(small);
+        Due.relay(back, full);
+        RUNS.on(back, 0, "count(0)=5 count(1)=4 count(2)=3 mower(0,0)=1 behind(9,0,0)={123456789} behind(9,4,0)={8} "
+            + "behind(3,4,1)=6 cow(0,0)=3 cow(3,0)=0 rick(0,0)=9 rick(2,0)=7");
+        Due.relay(back, small);
+        RUNS.on(back, 0, told);
+        for (String read : new String[] {full, full + "x", "m987654321;e333;c3;k9"}) {
+            HayTalk hay = Due.written(read);
+            hay.fault();
+            hay.lay();
+            Due.relay(hay, small);
+            RUNS.on(hay, 0, told);
+        }
     }
 }
